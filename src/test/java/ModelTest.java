@@ -25,6 +25,7 @@ public final class ModelTest {
             calls = 0;
             log = new StringBuilder("run " + run);
             int small = run % 8 == 0 ? 6 : 2 + r.nextInt(4);
+            if (run % 4 == 1) waysOfSix();
             while (calls < 380 && wrong < 10) {
                 tell(small);
                 askMuch(20 + r.nextInt(60));
@@ -74,6 +75,29 @@ public final class ModelTest {
         for (int p = 0; p < people || r.nextInt(20) > 0 && p < 2; p++) s.append("one ").append(n(places - 1)).append(' ').append(n(places - 1)).append(';');
         if (r.nextInt(3) == 0) spoil(s);
         put(s.toString());
+    }
+
+    /** Six bridges, so that the RESTS of all of them tell states apart. */
+    private static void waysOfSix() {
+        StringBuilder s = new StringBuilder("places 4;hold 3;law " + n(2) + ";");
+        for (int b = 0; b < 6; b++) {
+            int a = n(3);
+            s.append("bridge ").append(a).append(' ').append((a + 1 + n(2)) % 4).append(';');
+        }
+        for (int b = 0; b < 6; b++) s.append("chain ").append(b).append(' ').append((b + 1 + n(4)) % 6).append(';');
+        put(s.append("one 0 1;").toString());
+        for (int from = 0; from < 4; from++) {
+            due(11, "send(0," + from + "," + (from + 1) % 4 + ")", x.send(0, from, (from + 1) % 4), m.send(0, from, (from + 1) % 4));
+            for (int b = 0; b < 6; b++) {
+                int rest = n(3);
+                due(10, "shut(" + b + "," + rest + ")", x.shut(b, rest), m.shut(b, rest));
+            }
+            due(14, "can(0)", x.can(0), m.can(0));
+            for (int i = 0; i < 6; i++) {
+                int what = i == 0 ? 0 : 9 + i;
+                due(13, "way(0," + what + ")", x.way(0, what), m.way(0, what));
+            }
+        }
     }
 
     private static String blank() {
@@ -142,6 +166,10 @@ public final class ModelTest {
     }
 
     private static void askMuch(int times) {
+        for (int p = 0; p < m.w.people.size() && m.w.bridges.size() < 6; p++) {
+            due(19, "relay(" + p + ",0)", x.relay(p, 0), m.relay(p, 0));
+            due(19, "relay(" + p + ",1)", x.relay(p, 1), m.relay(p, 1));
+        }
         for (int i = 0; i < times; i++) {
             int call = r.nextInt(CALLS.length);
             if (call < 8) change(4 + call);
