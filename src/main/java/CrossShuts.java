@@ -446,7 +446,10 @@ public final class CrossShuts {
 
         /** Shut for the rest of this minute too: one more than HOLD, which the minute's end takes off. */
         static int shutFor(int held, int b, int hold) {
-            return b == NO_BRIDGE ? held : withRest(held, b, hold + 1);
+            if (b == NO_BRIDGE) {
+                return held;
+            }
+            return held & ~(REST_MASK << REST_BITS * b) | hold + 1 << REST_BITS * b;
         }
 
         boolean touches(int b, int where) {
