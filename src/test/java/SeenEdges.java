@@ -87,6 +87,13 @@ final class SeenEdges {
 
     // ---- 25 rigs, 26 hangs
 
+    @Says(promise = 25, value = "RIGS that FIT: how many (what 0)")
+    private static void howMany() {
+        Run.told("hold 1;" + SIX).is("rigs(0)", 46656).does("saw(0, 0, true)").is("rigs(0)", 46656).does("saw(NONE, 1, true)").is("rigs(0)", 46656).does("saw(0, 1, false)").is("rigs(0)", 7776)
+            .does("saw(2, 1, true)").is("rigs(0)", 6480).does("saw(2, 3, true)").is("rigs(0)", 5184).does("saw(1, 1, true)").is("rigs(0)", 5184).is("count(2)", 6)
+            .is("forget(3)", 6).is("rigs(0)", 7776).does("saw(NONE, 1, false)").is("rigs(0)", 0);
+    }
+
     @Says(promise = 25, value = "10 and b: which HANGS on BRIDGE b in the first of them, by BRIDGES, each by numbers, none last (NONE: none).")
     private static void firstRig() {
         Run.told(SIX).moves("rigs(#)", 1, 0, 0, 0, 0, 0, BAD);
@@ -124,6 +131,7 @@ final class SeenEdges {
         Run.told("hold 1;" + TWO).does("saw(0, 1, true)").row("look(#)", 10, 1, BAD).does("saw(1, 0, true)").is("rigs(0)", 1).row("look(#)", NONE, NONE, BAD);
         Run.told(THREE).row("look(#)", 1, 18, BAD).does("saw(0, 1, true)").row("look(#)", 20, 6, BAD).does("saw(0, 2, true)").row("look(#)", 10, 6, BAD);
         Run.told(SIX).row("look(#)", 1, 38880, BAD);
+        Run.told("hold 1;" + THREE).does("saw(0, 0, true)", "saw(NONE, 0, true)").is("rigs(0)", 27).row("look(#)", 1, 18, BAD);
         Run.told("bridge 0 1;").row("look(#)", NONE, NONE, BAD);
         Run.told("hold 1;law 2;" + TWO).does("saw(1, 0, true)").row("look(#)", 1, 1, BAD);
     }

@@ -141,6 +141,19 @@ final class TextEdges {
         run().taken(most, 24).is("count(0)", 0).is("rings()", 63);
     }
 
+    @Says(promise = 0, value = "line: places N ; | hold N ; | law N ; | bridge N N ; | chain N N ; | shut N N ; | one N N ;")
+    private static void lineForms() {
+        for (String name : new String[] {"places", "hold", "law"}) {
+            int n = name.length();
+            run().taken(name + " 2;", 1).faulty(name + ";", 2, n).faulty(name + " 2 2;", 2, n + 3).faulty(name + " 2" + name + " 2;", 2, n + 2);
+        }
+        for (String name : new String[] {"bridge", "chain", "shut", "one"}) {
+            int n = name.length();
+            String ahead = "bridge 0 1;bridge 0 1;";
+            run().taken(ahead + name + " 0 1;", 3).faulty(name + ";", 2, n).faulty(name + " 0;", 2, n + 2).faulty(name + " 0 1 1;", 2, n + 5).faulty(name + " 0 1" + name, 2, n + 4);
+        }
+    }
+
     // ---- the bounds of a line's numbers
 
     /** A line with all numbers in place of #; alike is that which another FAULT meets, or -1. */
@@ -226,6 +239,9 @@ final class TextEdges {
         for (String name : new String[] {"place", "placess", "hol", "holds", "la", "laws", "bridg", "bridges", "chai", "chains",
             "shu", "shuts", "on", "ones", "a", "z", "text", "line", "oneone", "eno", "wal", "places" + "x".repeat(300)}) {
             run().faulty(name + " 2;", 2, 0).faulty("law 2;" + name, 2, 6);
+        }
+        for (String name : new String[] {"places", "hold", "law", "bridge", "chain", "shut", "one"}) {
+            for (int i = 0; i < name.length(); i++) run().faulty(name.substring(0, i) + "q" + name.substring(i + 1) + " 2;", 2, 0);
         }
     }
 

@@ -38,6 +38,19 @@ final class WaysEdges {
         Run.told("hold 3;law 1;" + text).is("way(0, 0)", 2).does("shut(1, 3)").is("way(0, 0)", 2).moves("way(0, #)", 1, 2, NONE);
         Run.told("hold 3;law 2;" + text).is("way(0, 0)", 5).does("chain(0, NONE)").is("way(0, 0)", 5).does("law(0)").is("way(0, 0)", 2);
         Run.told("hold 1;" + text).is("way(0, 0)", 3).row("one(#, 0)", 0, 1, 1).is("rule(5)", 0).is("bridge(1, 3)", 0);
+        Run.told("law 1;places 4;bridge 0 1;bridge 2 3;chain 0 1;shut 1 3;one 2 3;one 0 1;").is("way(0, 0)", 4).is("both(0, 1, 0)", 2);
+    }
+
+    @Says(promise = 0, value = "the soonest way for one, for two at once, by all states")
+    private static void byAllStates() {
+        for (int b = 0; b < 6; b++) {
+            StringBuilder text = new StringBuilder("places 4;one 0 1;one 0 1;");
+            for (int c = 0; c < 6; c++) text.append(c == b ? "bridge 0 1;" : "bridge 2 3;");
+            for (int rest = 1; rest <= 3; rest++) {
+                Run.told(text.toString()).does("shut(" + b + ", " + rest + ")").is("way(0, 0)", rest + 1).is("both(0, 1, 0)", rest + 1).is("both(0, 1, " + (10 + rest) + ")", 9 * (b + 1)).is("can(0)", 3);
+            }
+        }
+        Run.told("places 4;hold 2;bridge 0 1;bridge 1 2;" + Run.times(4, "bridge 2 3;") + "chain 0 5;shut 5 2;one 0 2;").is("way(0, 0)", 2);
     }
 
     @Says(promise = 15, value = "BAD; NONE: there is none, not so many.")
@@ -47,6 +60,17 @@ final class WaysEdges {
         Run.told("places 3;bridge 0 1;one 0 2;").are(NONE, "way(0, 0)", "way(0, 10)", "way(0, MAX)").are(BAD, "way(0, 9)", "way(1, 0)");
         Run.told("one 0 1;").are(NONE, "way(0, 0)", "way(0, 10)").does("send(0, 1, 1)").is("way(0, 0)", 0);
         new Run().are(BAD, "way(0, 0)", "way(0, 10)");
+    }
+
+    @Says(promise = 0, value = "The MOVE of one alone likewise (0 to 6).")
+    private static void lastMove() {
+        String text = "places 3;hold 3;" + Run.times(5, "bridge 1 2;") + "bridge 0 1;chain 5 0;one 0 1;one 2 2;";
+        Run.told(text).moves("way(0, #)", 6, NONE).moves("guard(0, 0, 3, #)", 6, 0, 0, NONE).is("game(0, 1, 1, 1)", 6).does("shut(5, 1)").moves("way(0, #)", 0, 6, NONE).is("game(0, 1, 2, 1)", 0);
+        for (int b = 0; b < 6; b++) {
+            StringBuilder one = new StringBuilder("places 4;one 0 1;one 3 3;");
+            for (int c = 0; c < 6; c++) one.append(c == b ? "bridge 0 1;" : "bridge 2 3;");
+            Run.told(one.toString()).moves("way(0, #)", b + 1, NONE).is("game(0, 1, 1, 1)", b + 1);
+        }
     }
 
     // ---- 16 can
@@ -79,6 +103,19 @@ final class WaysEdges {
         Run.told("bridge 0 1;bridge 0 1;chain 0 1;" + THREE_ONES).moves("both(0, 1, #)", 9, NONE).does("chain(0, NONE)", "law(1)").moves("both(0, 1, #)", 10, NONE)
             .does("law(2)").moves("both(0, 1, #)", 9, NONE);
         Run.told("places 3;bridge 0 1;bridge 1 2;shut 1 1;one 0 2;one 2 1;").is("both(0, 1, 0)", 2).moves("both(0, 1, #)", 1, 18, NONE);
+    }
+
+    @Says(promise = 0, value = "Of two at once: MOVES of both (8 times that of the later one and that of the earlier one, by numbers)")
+    private static void movesOfBoth() {
+        for (int b = 0; b < 6; b++) {
+            for (int c = 0; c < 6; c++) {
+                if (b == c) continue;
+                StringBuilder text = new StringBuilder("places 5;one 0 1;one 4 4;one 2 3;");
+                for (int d = 0; d < 6; d++) text.append(d == b ? "bridge 0 1;" : d == c ? "bridge 2 3;" : "bridge 1 3;");
+                Run.told(text.toString()).moves("both(0, 2, #)", 8 * (c + 1) + b + 1, NONE).moves("both(2, 0, #)", 8 * (c + 1) + b + 1, NONE).moves("both(1, 2, #)", 8 * (c + 1), NONE)
+                    .moves("both(0, 1, #)", b + 1, NONE);
+            }
+        }
     }
 
     @Says(promise = 17, value = "BAD (also alike); NONE.")
@@ -176,6 +213,14 @@ final class WaysEdges {
         Run.told("bridge 0 1;shut 0 2;one 0 1;one 0 0;").row("game(0, 1, #, 0)", NONE, NONE, NONE, 3, BAD).row("game(0, 1, #, 1)", NONE, NONE, NONE, 0, BAD)
             .are(BAD, "game(0, 1, -1, 0)", "game(0, 1, MIN, 0)", "game(0, 1, MAX, 0)", "game(1, 0, -1, 0)", "game(1, 0, 4, 0)").row("game(1, 0, #, 0)", 0, 0, 0, 0);
         Run.told("bridge 0 1;shut 0 3;one 0 1;one 0 0;").row("game(0, 1, #, 0)", NONE, NONE, NONE, NONE, BAD);
+    }
+
+    @Says(promise = 20, value = "the fewest MINUTES in which he can win for sure (what 0), the first MOVE by which he does in so many (1).")
+    private static void soonestWin() {
+        Run.told(SIX + "one 0 1;one 1 1;").is("game(0, 1, 3, 0)", 1).is("game(0, 1, 3, 1)", 1).does("shut(0, 1)").is("game(0, 1, 3, 0)", 1).is("game(0, 1, 3, 1)", 2).does("shut(1, 3)", "shut(2, 3)",
+            "shut(3, 3)", "shut(4, 3)", "shut(5, 3)").is("game(0, 1, 3, 0)", 2).is("game(0, 1, 3, 1)", 0).does("shut(5, 0)").is("game(0, 1, 3, 0)", 1).is("game(0, 1, 3, 1)", 6);
+        Run.told("places 4;bridge 0 2;bridge 0 3;bridge 3 1;bridge 2 3;one 0 1;one 1 1;").is("game(0, 1, 3, 0)", 2).is("game(0, 1, 3, 1)", 2).is("game(0, 1, 2, 1)", 2).is("game(0, 1, 1, 1)", NONE)
+            .does("send(1, 2, 2)").is("game(0, 1, 3, 0)", 2);
     }
 
     @Says(promise = 20, value = "BAD (also alike); NONE: he can not; (1) he has won.")
