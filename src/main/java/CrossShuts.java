@@ -1145,6 +1145,8 @@ public final class CrossShuts {
     private static final class Watch {
         private static final int UNTOLD = 7;
         private static final int NONE_BIT = 64;
+        /** Above every rig: six figures to the base 7. */
+        private static final int NO_RIG = 7 * 7 * 7 * 7 * 7 * 7;
 
         int seen;
         int fitting;
@@ -1179,7 +1181,7 @@ public final class CrossShuts {
             hold = town.hold;
             ahead = lookAhead;
             fitting = 0;
-            firstRig = Integer.MAX_VALUE;
+            firstRig = NO_RIG;
             Arrays.fill(possible, 0);
             Arrays.fill(hang, UNTOLD);
             Arrays.fill(leftOpen, 0);

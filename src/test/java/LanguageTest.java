@@ -85,8 +85,12 @@ public final class LanguageTest {
         while (system.find()) must(system.group(1).equals("arraycopy"), "4: " + system.group());
         Matcher arrays = Pattern.compile("Arrays\\.(\\w+)").matcher(bare);
         while (arrays.find()) must(List.of("fill", "copyOf", "copyOfRange").contains(arrays.group(1)), "4: " + arrays.group());
-        Matcher math = Pattern.compile("Math\\.(\\w+)").matcher(bare);
-        while (math.find()) must(!math.group(1).endsWith("Exact"), "4: " + math.group());
+        // "The static functions of Integer, Long and Math": no constants of theirs, none whose name ends in Exact.
+        Matcher functions = Pattern.compile("\\b(?:Integer|Long|Math)\\.(\\w+)(\\(?)").matcher(bare);
+        while (functions.find()) must(!functions.group(1).endsWith("Exact") && !functions.group(2).isEmpty(), "4: " + functions.group());
+        for (String kind : new String[] {"Short", "Byte", "Character", "Boolean", "Double", "Float", "Objects", "Collections", "Map", "Set", "Stream"}) {
+            must(!Pattern.compile("\\b" + kind + "\\b").matcher(bare).find(), "4: " + kind);
+        }
         for (char sign : source.toCharArray()) must(sign < 128, "4: sign " + (int) sign);
     }
 
